@@ -619,12 +619,12 @@ public final class LeasePair {
         private int choose(int client, int now) {
             int address = leastLentTo(client);
             if (address == NONE) {
-                address = leastFree(number, SERVERS);
+                address = leastFree(true);
             }
             if (address != NONE || state != ALONE || !isPastLead(now)) {
                 return address;
             }
-            address = leastFree(0, 1);
+            address = leastFree(false);
             return address == NONE ? leastLongPast(now) : address;
         }
 
@@ -637,9 +637,9 @@ public final class LeasePair {
             return NONE;
         }
 
-        private int leastFree(int first, int step) {
-            for (int a = first; a < ADDRESSES; a += step) {
-                if (records[a].kind == FREE) {
+        private int leastFree(boolean ofShareOnly) {
+            for (int a = 0; a < ADDRESSES; a++) {
+                if (records[a].kind == FREE && (!ofShareOnly || a % SERVERS == number)) {
                     return a;
                 }
             }
