@@ -334,32 +334,9 @@ public final class LeasePair {
     }
 
     private void arriveUpdate(Message update) {
-        Server server = servers[update.to];
-        LeaseRecord record = server.records[update.address];
-        if (applyUpdate(server, record, update)) {
+        if (servers[update.to].takeUpdate(update, time)) {
             acknowledge(update);
         }
-    }
-
-    /** Answers whether the update was taken, and so is to be acknowledged. */
-    private boolean applyUpdate(Server server, LeaseRecord record, Message update) {
-        if (server.state == RECOVERING) {
-            if (update.session != server.session) {
-                return false;
-            }
-            if (!server.hasGot(update.address)) {
-                return applyFirstUpdate(server, record, update);
-            }
-        }
-        return record.takeUpdate(update, time);
-    }
-
-    private boolean applyFirstUpdate(Server server, LeaseRecord record, Message update) {
-        if (!record.recover(update, time)) {
-            return false;
-        }
-        server.got |= 1 << update.address;
-        return true;
     }
 
     private void arriveAcknowledgement(Message answer) {
@@ -597,6 +574,25 @@ public final class LeasePair {
             } else if (state == RECOVERING && contact && got == ALL_ADDRESSES && isPastLead(now)) {
                 state = NORMAL;
             }
+        }
+
+        /** Answers whether the update was taken, and so is to be acknowledged. */
+        private boolean takeUpdate(Message update, int now) {
+            LeaseRecord record = records[update.address];
+            if (state != RECOVERING) {
+                return record.takeUpdate(update, now);
+            }
+            if (update.session != session) {
+                return false;
+            }
+            if (hasGot(update.address)) {
+                return record.takeUpdate(update, now);
+            }
+            boolean taken = record.recover(update, now);
+            if (taken) {
+                got |= 1 << update.address;
+            }
+            return taken;
         }
 
         private void endExpired(int now) {

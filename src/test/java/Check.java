@@ -2,15 +2,21 @@
 final class Check {
     private static int checks = 0;
     private static int wrong = 0;
+    private static String sentence = "";
 
     private Check() {
+    }
+
+    /** The document's words that the next checks stand for: told beside a wrong answer. */
+    static void about(String words) {
+        sentence = "[" + words + "] ";
     }
 
     static void due(String what, Object got, Object want) {
         checks++;
         if (!got.equals(want)) {
             wrong++;
-            System.out.println(what + " answered " + got + ", due is " + want);
+            System.out.println(sentence + what + " answered " + got + ", due is " + want);
         }
     }
 

@@ -3,13 +3,15 @@ import java.util.Random;
 import java.util.TreeMap;
 
 /**
- * Long runs of chosen calls on the program and on the model, all that can be seen compared after each
- * call (promises 1 to 15), and no address ever held by two clients. The seeds are fixed, so every run of this
+ * Long runs of chosen calls on the program and on the model, each answer compared, and now and then all that can
+ * be seen (promises 1 to 15), and no address ever held by two clients. The seeds are fixed, so every run of this
  * test is the same. A first argument sets the number of runs, a second one lists the clauses come to.
  */
 final class ModelTest {
     private static final int RUNS = 4000;
-    private static final int CALLS = 511;
+    private static final int CALLS = Counted.LIMIT;
+    /** One call in so many is followed by a look at all. */
+    private static final int LOOKS = 10;
     private static final int[] WRONG = {Integer.MIN_VALUE, -2, -1, 5, 6, 24, 32, Integer.MAX_VALUE};
 
     /** Rare clauses of the document: the runs are worth little if they do not come to these. */
@@ -86,7 +88,7 @@ final class ModelTest {
     private String fault() {
         for (int i = 0; i < CALLS; i++) {
             boolean same = next();
-            String difference = twin.difference();
+            String difference = random.nextInt(LOOKS) == 0 ? twin.difference(random.nextInt(4)) : "";
             if (!same || !difference.isEmpty()) {
                 return twin.told + " " + difference;
             }
@@ -108,10 +110,10 @@ final class ModelTest {
         if (random.nextInt(100) < 2) {
             return wrongCall();
         }
-        if (random.nextInt(100) < asking || twin.pair.messages() == 0) {
+        if (random.nextInt(100) < asking || twin.model.messages() == 0) {
             return callOfAClient(random.nextInt(5), random.nextInt(2));
         }
-        return callOfAMessage(random.nextInt(100) < disorder ? random.nextInt(twin.pair.messages()) : 0);
+        return callOfAMessage(random.nextInt(100) < disorder ? random.nextInt(twin.model.messages()) : 0);
     }
 
     private boolean callOfAClient(int client, int server) {
@@ -149,15 +151,17 @@ final class ModelTest {
 
     private boolean wrongCall() {
         int wrong = oneOf(WRONG);
-        switch (random.nextInt(5)) {
+        switch (random.nextInt(6)) {
             case 0:
                 return callOfAClient(wrong, random.nextInt(2));
             case 1:
                 return callOfAClient(random.nextInt(5), wrong);
             case 2:
-                return callOfAMessage(wrong < 0 ? wrong : Math.max(wrong, twin.pair.messages()));
+                return callOfAMessage(wrong < 0 ? wrong : Math.max(wrong, twin.model.messages()));
             case 3:
-                return twin.stop(wrong) && twin.start(wrong);
+                return twin.stop(wrong);
+            case 4:
+                return twin.start(wrong);
             default:
                 return twin.alone(wrong);
         }

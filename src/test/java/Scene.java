@@ -17,12 +17,32 @@ final class Scene {
     static final int SERIAL = 6;
     static final int DIRTY = 7;
 
-    final LeasePair pair = new LeasePair();
+    final Counted pair;
+
+    Scene() {
+        this(new Counted());
+    }
+
+    private Scene(Counted pair) {
+        this.pair = pair;
+    }
 
     /** The least number of a message of this kind to this receiver, or -1. */
     int find(int kind, int to) {
-        for (int k = 0; k < pair.messages(); k++) {
+        int count = pair.messages();
+        for (int k = 0; k < count; k++) {
             if (pair.message(k, 0) == kind && pair.message(k, 2) == to) {
+                return k;
+            }
+        }
+        return -1;
+    }
+
+    /** The same with this subject: the address of an UPDATE or an ACKNOWLEDGEMENT. */
+    int find(int kind, int to, int subject) {
+        int count = pair.messages();
+        for (int k = 0; k < count; k++) {
+            if (pair.message(k, 0) == kind && pair.message(k, 2) == to && pair.message(k, 3) == subject) {
                 return k;
             }
         }
@@ -31,13 +51,26 @@ final class Scene {
 
     /** Delivers the first message of this kind to this receiver; false if there is none. */
     boolean pass(int kind, int to) {
-        int k = find(kind, to);
-        return k >= 0 && pair.deliver(k);
+        return pair.deliver(find(kind, to));
+    }
+
+    boolean pass(int kind, int to, int subject) {
+        return pair.deliver(find(kind, to, subject));
     }
 
     boolean drop(int kind, int to) {
-        int k = find(kind, to);
-        return k >= 0 && pair.lose(k);
+        return pair.lose(find(kind, to));
+    }
+
+    boolean drop(int kind, int to, int subject) {
+        return pair.lose(find(kind, to, subject));
+    }
+
+    /** Asks of client 4 until there are so many messages. */
+    void fillUpTo(int count) {
+        for (int i = pair.messages(); i < count; i++) {
+            pair.ask(4, 1);
+        }
     }
 
     /** A client asks, and the ask and its answer arrive: the address that the client holds then. */
@@ -62,14 +95,25 @@ final class Scene {
 
     /** Every message arrives, in order, with those that they bring about. */
     void settle() {
-        for (int i = 0; i < 200 && pair.messages() > 0; i++) {
-            pair.deliver(0);
+        for (int count = pair.messages(); count > 0; count = pair.messages()) {
+            for (int i = 0; i < count; i++) {
+                pair.deliver(0);
+            }
         }
     }
 
     void loseAll() {
-        for (int i = 0; i < 24; i++) {
+        for (int count = pair.messages(); count > 0; count--) {
             pair.lose(0);
+        }
+    }
+
+    /** Only messages of this kind are left. */
+    void loseAllBut(int kind) {
+        for (int k = pair.messages() - 1; k >= 0; k--) {
+            if (pair.message(k, 0) != kind) {
+                pair.lose(k);
+            }
         }
     }
 
@@ -118,6 +162,11 @@ final class Scene {
 
     /** All that can be seen, for 'changing nothing'. */
     String all() {
+        return new Scene(pair.again()).seen();
+    }
+
+    /** The same by looking at this very object, which uses its calls up. */
+    String seen() {
         StringBuilder text = new StringBuilder();
         for (int server = 0; server < 2; server++) {
             text.append("server ").append(pair.state(server));
@@ -129,7 +178,8 @@ final class Scene {
         for (int number = 0; number < 5; number++) {
             text.append("client ").append(client(number)).append('\n');
         }
-        for (int k = 0; k < pair.messages(); k++) {
+        int count = pair.messages();
+        for (int k = 0; k < count; k++) {
             text.append("message ").append(message(k)).append('\n');
         }
         return text.toString();

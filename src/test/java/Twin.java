@@ -3,7 +3,7 @@ import java.util.List;
 
 /** The program and the model side by side: each call is made on both, and answers whether both answered the same. */
 final class Twin {
-    final LeasePair pair = new LeasePair();
+    final Counted pair = new Counted();
     final Model model = new Model();
     final List<String> told = new ArrayList<>();
 
@@ -49,10 +49,11 @@ final class Twin {
         return same;
     }
 
+    /** By the model, whose clients are compared with the program's. */
     boolean twoHoldOne() {
         boolean[] held = new boolean[6];
         for (int client = 0; client < 5; client++) {
-            int address = pair.client(client, 0);
+            int address = model.client(client, 0);
             if (address >= 0 && held[address]) {
                 return true;
             }
@@ -63,40 +64,73 @@ final class Twin {
         return false;
     }
 
+    /** What a new object shows other than the model after the same calls, as far as its 512 calls reach. */
     String difference() {
-        for (int server = 0; server < 2; server++) {
-            if (pair.state(server) != model.state(server)) {
-                return "state(" + server + ") answered " + pair.state(server) + ", due is " + model.state(server);
+        return difference(0);
+    }
+
+    /** Begins with this part, 0 to 3: after many calls there are not enough left for all of them. */
+    String difference(int firstPart) {
+        Counted copy = pair.again();
+        for (int i = 0; i < 4; i++) {
+            String found = differenceOfPart((firstPart + i) % 4, copy);
+            if (!found.isEmpty()) {
+                return found;
             }
-            for (int address = 0; address < 6; address++) {
-                for (int what = 0; what < 8; what++) {
-                    int got = pair.entry(server, address, what);
-                    int want = model.entry(server, address, what);
-                    if (got != want) {
-                        return "entry(" + server + ", " + address + ", " + what + ") answered " + got + ", due is " + want;
-                    }
+        }
+        return "";
+    }
+
+    private String differenceOfPart(int part, Counted copy) {
+        switch (part) {
+            case 0:
+            case 1:
+                return copy.left() < 49 ? "" : differenceOfServer(part, copy);
+            case 2:
+                return copy.left() < 20 ? "" : differenceOfClients(copy);
+            default:
+                return copy.left() < 1 + 6 * model.messages() ? "" : differenceOfMessages(copy);
+        }
+    }
+
+    private String differenceOfServer(int server, Counted copy) {
+        int state = copy.state(server);
+        if (state != model.state(server)) {
+            return "state(" + server + ") answered " + state + ", due is " + model.state(server);
+        }
+        for (int address = 0; address < 6; address++) {
+            for (int what = 0; what < 8; what++) {
+                int got = copy.entry(server, address, what);
+                int want = model.entry(server, address, what);
+                if (got != want) {
+                    return "entry(" + server + ", " + address + ", " + what + ") answered " + got + ", due is " + want;
                 }
             }
         }
+        return "";
+    }
+
+    private String differenceOfClients(Counted copy) {
         for (int client = 0; client < 5; client++) {
             for (int what = 0; what < 4; what++) {
-                int got = pair.client(client, what);
+                int got = copy.client(client, what);
                 int want = model.client(client, what);
                 if (got != want) {
                     return "client(" + client + ", " + what + ") answered " + got + ", due is " + want;
                 }
             }
         }
-        return differenceOfMessages();
+        return "";
     }
 
-    private String differenceOfMessages() {
-        if (pair.messages() != model.messages()) {
-            return "messages() answered " + pair.messages() + ", due is " + model.messages();
+    private String differenceOfMessages(Counted copy) {
+        int count = copy.messages();
+        if (count != model.messages()) {
+            return "messages() answered " + count + ", due is " + model.messages();
         }
-        for (int k = 0; k < pair.messages(); k++) {
+        for (int k = 0; k < count; k++) {
             for (int what = 0; what < 6; what++) {
-                int got = pair.message(k, what);
+                int got = copy.message(k, what);
                 int want = model.message(k, what);
                 if (got != want) {
                     return "message(" + k + ", " + what + ") answered " + got + ", due is " + want;
