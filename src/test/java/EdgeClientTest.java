@@ -19,6 +19,7 @@ final class EdgeClientTest {
         theGreaterOfTimeAndAcked();
         untilIsAtLeast();
         aloneLendsForTwenty();
+        serversThatServe();
         onlyServersThatServeAnswer();
         Check.end();
     }
@@ -322,6 +323,23 @@ final class EdgeClientTest {
         Check.due("a new one", scene.client(2), "4 23 1 0");
         scene.lend(0, 0);
         Check.due("one that ran", scene.record(0, 0), "1 0 23 0 0 1 2 1");
+    }
+
+    private static void serversThatServe() {
+        Check.about("NORMAL, INTERRUPTED and ALONE servers SERVE");
+        for (int server = 0; server < 2; server++) {
+            Scene scene = new Scene();
+            Check.due("normal", scene.lend(0, server), server);
+            scene.pair.link(false);
+            scene.ticks(1);
+            Check.due("interrupted", scene.pair.state(server), 2);
+            Check.due("it lends", scene.lend(1, server), server + 2);
+            Check.due("until TIME + 6", scene.client(1), server + 2 + " 7 1 0");
+            Check.due("and lends on", scene.lend(0, server), server);
+            scene.pair.stop(1 - server);
+            scene.pair.alone(server);
+            Check.due("alone", scene.lend(2, server), server + 4);
+        }
     }
 
     private static void onlyServersThatServeAnswer() {

@@ -24,6 +24,7 @@ final class EdgeUpdateTest {
         ackedBecomesAtLeast();
         acknowledgedOver();
         acknowledgedFree();
+        aStopTakesALateDemand();
         Check.end();
     }
 
@@ -433,5 +434,17 @@ final class EdgeUpdateTest {
         scene.pass(Scene.UPDATE, 0, 0);
         Check.yes("acknowledged", scene.pass(Scene.ACKNOWLEDGEMENT, 1, 0));
         Check.due("not dirty, and free", scene.record(1, 0), "0 -1 0 0 0 0 0 0");
+    }
+
+    private static void aStopTakesALateDemand() {
+        Check.about("stop: all messages between the servers vanish");
+        for (int server = 0; server < 2; server++) {
+            Scene scene = lateDemand();
+            scene.pair.ask(0, 0);
+            Check.due("a demand, an update and an ask", scene.pair.messages(), 3);
+            Check.yes("stop(" + server + ")", scene.pair.stop(server));
+            Check.due("the ask is left", scene.pair.messages(), 1);
+            Check.due("the ask", scene.message(0), "0 0 0 1 0 7");
+        }
     }
 }
